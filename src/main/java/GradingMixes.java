@@ -394,8 +394,8 @@ public final class GradingMixes {
         private final int[] allow = new int[MAX_SIEVES];
         private final int[] shares = new int[MAX_STOCKS];
         /** Row i holds the ends of the stocks before stock i, so each stock adds only its own. */
-        private final int[][] lowerUpTo = new int[MAX_STOCKS + 1][MAX_SIEVES];
-        private final int[][] upperUpTo = new int[MAX_STOCKS + 1][MAX_SIEVES];
+        private final int[][] lowerBefore = new int[MAX_STOCKS][MAX_SIEVES];
+        private final int[][] upperBefore = new int[MAX_STOCKS][MAX_SIEVES];
         final boolean[] kept = new boolean[MAX_SIEVES];
         final Mix best = new Mix();
         final Mix nearest = new Mix();
@@ -440,38 +440,57 @@ public final class GradingMixes {
             if (i < 0 || i >= plant.stocks) {
                 return;
             }
-            boolean last = i == plant.stocks - 1;
             int room = plant.old[i] ? Math.min(left, oldLeft) : left;
             int most = Math.min(room, plant.most[i]);
-            // What is left is a multiple of the step, as 100 and all shares before it are.
-            int from = last ? left : 0;
+            if (i == plant.stocks - 1) {
+                // What is left is a multiple of the step, as 100 and all shares before it are.
+                if (within(left, plant.least[i], most)) {
+                    shares[i] = left;
+                    lookAt(priceBefore + left * plant.price[i], missOfAll(i, left));
+                }
+                return;
+            }
             for (int n = 0; n <= HUNDRED; n++) {
-                int share = from + n * plant.step;
+                int share = n * plant.step;
                 if (share > most) {
                     break;
                 }
                 if (share >= plant.least[i]) {
                     putShare(i, share);
-                    int price = priceBefore + share * plant.price[i];
-                    if (last) {
-                        lookAt(price);
-                    } else {
-                        fillFrom(i + 1, left - share, plant.old[i] ? oldLeft - share : oldLeft, price);
-                    }
+                    int oldRest = plant.old[i] ? oldLeft - share : oldLeft;
+                    fillFrom(i + 1, left - share, oldRest, priceBefore + share * plant.price[i]);
                 }
             }
         }
 
+        /** Only for a stock that is not the last one: it fills the row of the stock behind it. */
         private void putShare(int i, int share) {
             shares[i] = share;
             for (int s = 0; s < plant.sieves; s++) {
-                lowerUpTo[i + 1][s] = lowerUpTo[i][s] + share * plant.lower[i][s];
-                upperUpTo[i + 1][s] = upperUpTo[i][s] + share * plant.upper[i][s];
+                lowerBefore[i + 1][s] = lowerBefore[i][s] + share * plant.lower[i][s];
+                upperBefore[i + 1][s] = upperBefore[i][s] + share * plant.upper[i][s];
             }
         }
 
-        private void lookAt(int price) {
-            int missed = missOfAll();
+        private int missOfAll(int last, int share) {
+            int[] lowerSums = lowerBefore[last];
+            int[] upperSums = upperBefore[last];
+            int[] lowerOwn = plant.lower[last];
+            int[] upperOwn = plant.upper[last];
+            int sum = 0;
+            for (int s = 0; s < plant.sieves; s++) {
+                int below = need[s] - lowerSums[s] - share * lowerOwn[s];
+                int above = upperSums[s] + share * upperOwn[s] - allow[s];
+                int miss = Math.max(0, below) + Math.max(0, above);
+                if (miss == 0) {
+                    kept[s] = true;
+                }
+                sum += miss;
+            }
+            return sum;
+        }
+
+        private void lookAt(int price, int missed) {
             mixes++;
             if (missed == 0) {
                 keeping++;
@@ -479,24 +498,10 @@ public final class GradingMixes {
                     best.set(shares, price, missed);
                 }
             }
-            boolean alike = nearest.there && missed == nearest.missed;
-            if (!nearest.there || missed < nearest.missed || alike && price < nearest.price) {
+            if (!nearest.there || missed < nearest.missed
+                    || missed == nearest.missed && price < nearest.price) {
                 nearest.set(shares, price, missed);
             }
-        }
-
-        private int missOfAll() {
-            int[] lower = lowerUpTo[plant.stocks];
-            int[] upper = upperUpTo[plant.stocks];
-            int sum = 0;
-            for (int s = 0; s < plant.sieves; s++) {
-                int miss = Math.max(0, need[s] - lower[s]) + Math.max(0, upper[s] - allow[s]);
-                if (miss == 0) {
-                    kept[s] = true;
-                }
-                sum += miss;
-            }
-            return sum;
         }
     }
 

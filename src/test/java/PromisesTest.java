@@ -303,6 +303,7 @@ public final class PromisesTest {
         dueBand(x, 5, 9, 9);
         check.due("what was collected is gone", x.read(), -1);
         dueRead(x, "1-2,1-2,1-2,1-2,1-2,1-2,1-2", -25);
+        dueRead(x, "1-2,1-2,1-2,1-2,1-2,1-2,12", -27);
         dueRead(x, "0000-1000,0000-1000,0000-1000,0000-1000,0000-1000,0000-1000", 6);
     }
 
@@ -347,6 +348,10 @@ public final class PromisesTest {
         dueRead(x, "/-2", -1);
         // A band that is not yet whole is none: the sign that breaks it is the wrong one.
         dueRead(x, "2000-x", -6);
+        dueRead(x, "1-2,3-4", 2);
+        dueRead(x, "1", -2);
+        dueRead(x, "1-2", 1);
+        dueRead(x, "1-", -3);
         dueRead(x, "1-2,3-4,5x", -10);
     }
 
@@ -466,12 +471,26 @@ public final class PromisesTest {
         x.passes(1, 1, 200, 0);
         check.due("now all miss alike: the cheapest one", x.near(), 12000);
         check.due("share", x.share(0), 0);
+        nearestBeforeCheapest();
         GradingMixes y = withMix();
         check.due("nearest is the best if there is one", y.near(), 0);
         check.due("cost", y.cost(), 5200);
         y.cap(39);
         check.due("no mix at all", y.near(), BAD);
         check.due("none at hand", y.cost(), BAD);
+    }
+
+    private static void nearestBeforeCheapest() {
+        GradingMixes x = new GradingMixes();
+        x.sieve(1000, 1000);
+        x.stock(1, 0, 100, false);
+        x.stock(9, 0, 100, false);
+        x.passes(1, 0, 900, 0);
+        check.due("the dearest misses least", x.near(), 10000);
+        dueShares(x, 0, 100);
+        x.passes(0, 0, 950, 0);
+        check.due("the cheapest misses least", x.near(), 5000);
+        dueShares(x, 100, 0);
     }
 
     private static void alikeMixes() {
@@ -531,6 +550,29 @@ public final class PromisesTest {
         check.due("near", x.near(), 46000 - 45000 + 55000 - 46000);
         check.due("misses at both ends", x.told(0, 3), 46000 - 45000 + 55000 - 46000);
         check.due("of those that miss alike the cheapest", x.share(0), 50);
+        toldOfMost();
+    }
+
+    /** As many sieves and stocks as there can be. */
+    private static void toldOfMost() {
+        GradingMixes x = new GradingMixes();
+        int[] shares = {10, 20, 30, 40};
+        for (int share : shares) {
+            x.stock(share, share, share, true);
+        }
+        for (int s = 0; s < 6; s++) {
+            x.sieve(100 * s, 1000);
+            for (int i = 0; i < 4; i++) {
+                x.passes(i, s, 100 * i + s, 2);
+            }
+        }
+        check.due("near", x.near(), (300 - 201) * 100 + (400 - 202) * 100 + (500 - 203) * 100);
+        for (int s = 0; s < 6; s++) {
+            check.due("middle", x.told(s, 0), 20000 + 100 * s);
+            check.due("lower end", x.told(s, 1), 20000 + 100 * s - 200 + 10 * Math.max(0, 2 - s));
+            check.due("upper end", x.told(s, 2), 20000 + 100 * s + 200);
+            check.due("miss", x.told(s, 3), s < 3 ? 0 : (99 * s - 198) * 100);
+        }
     }
 
     private static void cost() {
@@ -572,6 +614,9 @@ public final class PromisesTest {
         check.due("each alone can be kept", x.lonely(1), BAD);
         x.band(0, 0, 1000);
         check.due("none is lonely though no mix keeps all", x.lonely(0), BAD);
+        x.band(0, 1, 1000);
+        check.due("lonely again", x.lonely(0), 0);
+        x.band(0, 0, 1000);
         check.due("no mix keeps all", x.run(), BAD);
         x.cap(100);
         x.stock(1, 1, 1, false);
@@ -772,6 +817,11 @@ public final class PromisesTest {
         dueTests(x, 511, 0, 4);
         check.due("rule 1 is before rule 2", x.test(0, 1000), 1);
         check.due("those of rule 1 count", x.test(0, 999), 2);
+        x.limit(1000);
+        x.band(0, 0, 1000);
+        x.run();
+        dueTests(x, 489, 0, 4);
+        check.due("five are enough", x.test(0, 489), 2);
     }
 
     private static void dueTests(GradingMixes x, int value, int want, int times) {
