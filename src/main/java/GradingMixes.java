@@ -547,6 +547,10 @@ public final class GradingMixes {
         /** The place that is wrong, or -1 if none is. */
         private int parseBand(int k, int sieves) {
             int first = at;
+            // Without a sieve no sign can go on here: what is wrong behind this one comes later.
+            if (k >= sieves || k >= MAX_SIEVES) {
+                return first;
+            }
             int low = parseNumber();
             if (low < 0 || !skip('-')) {
                 return at;
@@ -555,7 +559,7 @@ public final class GradingMixes {
             if (high < 0) {
                 return at;
             }
-            if (k >= sieves || k >= MAX_SIEVES || !mayBeBand(low, high)) {
+            if (!mayBeBand(low, high)) {
                 return first;
             }
             lows[k] = low;

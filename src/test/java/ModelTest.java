@@ -365,6 +365,9 @@ public final class ModelTest {
         private int firstWrong(String text, List<int[]> found) {
             int at = 0;
             while (true) {
+                if (found.size() == bands.size()) {
+                    return at;
+                }
                 int dash = behindDigits(text, at);
                 if (dash == at || dash == text.length() || text.charAt(dash) != '-') {
                     return dash;
@@ -375,7 +378,7 @@ public final class ModelTest {
                 }
                 int low = Integer.parseInt(text.substring(at, dash));
                 int high = Integer.parseInt(text.substring(dash + 1, end));
-                if (!bandMayBe(low, high) || found.size() == bands.size()) {
+                if (!bandMayBe(low, high)) {
                     return at;
                 }
                 found.add(new int[] {low, high});

@@ -288,6 +288,9 @@ public final class PromisesTest {
         check.begin("promise 9, bands");
         GradingMixes x = new GradingMixes();
         dueRead(x, "1-2", -1);
+        dueRead(x, "5", -1);
+        dueRead(x, "5-", -1);
+        dueRead(x, "12345", -1);
         for (int i = 0; i < 6; i++) {
             x.sieve(500, 500);
         }
@@ -303,7 +306,7 @@ public final class PromisesTest {
         dueBand(x, 5, 9, 9);
         check.due("what was collected is gone", x.read(), -1);
         dueRead(x, "1-2,1-2,1-2,1-2,1-2,1-2,1-2", -25);
-        dueRead(x, "1-2,1-2,1-2,1-2,1-2,1-2,12", -27);
+        dueRead(x, "1-2,1-2,1-2,1-2,1-2,1-2,12", -25);
         dueRead(x, "0000-1000,0000-1000,0000-1000,0000-1000,0000-1000,0000-1000", 6);
     }
 
@@ -346,13 +349,22 @@ public final class PromisesTest {
         dueRead(x, "1/2", -2);
         dueRead(x, ":-2", -1);
         dueRead(x, "/-2", -1);
-        // A band that is not yet whole is none: the sign that breaks it is the wrong one.
+        // Whether a band may be is known when both its numbers stand: the sign that breaks it is wrong before.
+        dueRead(x, "12345-1", -5);
         dueRead(x, "2000-x", -6);
         dueRead(x, "1-2,3-4", 2);
         dueRead(x, "1", -2);
         dueRead(x, "1-2", 1);
         dueRead(x, "1-", -3);
-        dueRead(x, "1-2,3-4,5x", -10);
+        // That there is no sieve is known at its first digit, whatever is wrong behind it.
+        dueRead(x, "1-2,3-4,5", -9);
+        dueRead(x, "1-2,3-4,5x", -9);
+        dueRead(x, "1-2,3-4,5-", -9);
+        dueRead(x, "1-2,3-4,5-x", -9);
+        dueRead(x, "1-2,3-4,12345-6", -9);
+        // What is wrong before it still comes first.
+        dueRead(x, "1-2,3x4,5-6", -6);
+        dueRead(x, "1-2,4-3,5", -5);
     }
 
     private static void readKeepsAndForgets() {
