@@ -67,17 +67,6 @@ public final class PromisesTest {
         check.due("read() of \"" + text + "\"", x.read(), want);
     }
 
-    private static void dueBand(GradingMixes x, int sieve, int low, int high) {
-        if (low > 0) {
-            check.due("test below the band", x.test(sieve, low - 1), 1);
-        }
-        if (high < 1000) {
-            check.due("test above the band", x.test(sieve, high + 1), 1);
-        }
-        check.due("test at low is not outside", x.test(sieve, low) != 1, true);
-        check.due("test at high is not outside", x.test(sieve, high) != 1, true);
-    }
-
     private static void newObject() {
         check.begin("promise 1");
         GradingMixes x = new GradingMixes();
@@ -117,7 +106,7 @@ public final class PromisesTest {
         check.due("at 0", x.sieve(0, 0), 1);
         check.due("at 1000", x.sieve(1000, 1000), 2);
         check.due("ordinary", x.sieve(200, 400), 3);
-        dueBand(x, 3, 200, 400);
+        Samples.dueBand(check, x, 3, 200, 400);
         check.due("fifth", x.sieve(1, 2), 4);
         check.due("sixth", x.sieve(1, 2), 5);
         check.due("seventh", x.sieve(1, 2), BAD);
@@ -131,8 +120,8 @@ public final class PromisesTest {
         x.sieve(10, 20);
         x.sieve(30, 40);
         check.due("ordinary", x.band(1, 50, 60), true);
-        dueBand(x, 1, 50, 60);
-        dueBand(x, 0, 10, 20);
+        Samples.dueBand(check, x, 1, 50, 60);
+        Samples.dueBand(check, x, 0, 10, 20);
         check.due("sieve -1", x.band(-1, 0, 1), false);
         check.due("sieve 2", x.band(2, 0, 1), false);
         check.due("low below 0", x.band(0, -1, 1), false);
@@ -141,7 +130,7 @@ public final class PromisesTest {
         check.due("refused ones change nothing", x.count(2), 8);
         check.due("edges", x.band(0, 0, 1000), true);
         check.due("low is high", x.band(0, 7, 7), true);
-        dueBand(x, 0, 7, 7);
+        Samples.dueBand(check, x, 0, 7, 7);
     }
 
     private static void stock() {
@@ -295,15 +284,15 @@ public final class PromisesTest {
             x.sieve(500, 500);
         }
         dueRead(x, "3-7", 1);
-        dueBand(x, 0, 3, 7);
-        dueBand(x, 1, 500, 500);
+        Samples.dueBand(check, x, 0, 3, 7);
+        Samples.dueBand(check, x, 1, 500, 500);
         dueRead(x, "0-1000,1000-1000,0-0,0001-0020,12-345,9-9", 6);
-        dueBand(x, 0, 0, 1000);
-        dueBand(x, 1, 1000, 1000);
-        dueBand(x, 2, 0, 0);
-        dueBand(x, 3, 1, 20);
-        dueBand(x, 4, 12, 345);
-        dueBand(x, 5, 9, 9);
+        Samples.dueBand(check, x, 0, 0, 1000);
+        Samples.dueBand(check, x, 1, 1000, 1000);
+        Samples.dueBand(check, x, 2, 0, 0);
+        Samples.dueBand(check, x, 3, 1, 20);
+        Samples.dueBand(check, x, 4, 12, 345);
+        Samples.dueBand(check, x, 5, 9, 9);
         check.due("what was collected is gone", x.read(), -1);
         dueRead(x, "1-2,1-2,1-2,1-2,1-2,1-2,1-2", -25);
         dueRead(x, "1-2,1-2,1-2,1-2,1-2,1-2,12", -25);
