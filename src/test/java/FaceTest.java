@@ -88,9 +88,12 @@ public final class FaceTest {
 
     private static void words(String source) {
         String code = source.replaceAll("(?s)/\\*.*?\\*/", "").replaceAll("//[^\n]*", "");
+        // What LANGUAGE.md leaves of these words: some of the library, and the arrows of a switch.
+        String rest = code.replaceAll("import java\\.util\\.(ArrayList|List|Arrays|Iterator);", "")
+                .replace("System.arraycopy", "").replaceAll("\\b(case [^:\n]*?|default) ->", "");
         Matcher ruledOut = Pattern.compile(
-                "\\b(throw|throws|try|catch|finally|synchronized|assert|import|package|System|Thread|Object)\\b"
-                + "|->|::|Exact\\b").matcher(code);
+                "\\b(throw|throws|try|catch|finally|synchronized|assert|import|package|System|Thread)\\b"
+                + "|->|::|Exact\\b").matcher(rest);
         check.due(ruledOut.find() ? "ruled out: " + ruledOut.group() : "no word that is ruled out",
                 ruledOut.reset().find(), false);
     }
